@@ -381,13 +381,13 @@ public final class BlockExecutor {
     }
 
     private long joinByChunks(int aFrom, int aTo, int bFrom, int bTo, Table made) {
-        long cost = sizeOf(bTo - bFrom);
-        for (int start = bFrom; start < bTo; start += rowsInMemory()) {
-            int end = Math.min(start + rowsInMemory(), bTo);
-            joinWithChunk(aFrom, aTo, start, end, made);
-            cost += sizeOf(aTo - aFrom);
+        int chunkRows = rowsInMemory();
+        int chunks = dividedUp(bTo - bFrom, chunkRows);
+        for (int chunk = 0; chunk < chunks; chunk++) {
+            int start = bFrom + chunk * chunkRows;
+            joinWithChunk(aFrom, aTo, start, Math.min(start + chunkRows, bTo), made);
         }
-        return cost;
+        return sizeOf(bTo - bFrom) + (long) chunks * sizeOf(aTo - aFrom);
     }
 
     private void joinWithChunk(int aFrom, int aTo, int start, int end, Table made) {

@@ -213,6 +213,10 @@ public final class BoundaryJoinTermsTest {
         // A part is paid for though there is none to join it with; one without rows costs nothing.
         dueJoin(3, new int[] {7, 0}, withKeys(0, 2, 4, 1, 3), (1 + 2) + (1 + 0) + (1 + 1) + 2 + 1, 7, 0);
         dueJoin(6, new int[] {7, 4, 7, 3}, sameKey(2, 17), (1 + 5) + (1 + 1) + 5);
+        // A pair that is parted again costs what its own rows do, not those before it.
+        dueJoin(3, new int[] {9, 0, 8, 0, 7, 0, 6, 0, 1, 1}, withKeys(0, 1, 3, 2, 5, 4, 7, 9),
+                (2 + 2) + (1 + 1) + (1 + 2) + 2 + (1 + 2) + (1 + 1 + 1) + 2 + 2,
+                9, 0, 8, 0, 7, 0, 6, 0, 1, 0);
     }
 
     private static void pairsFromZeroOn() {

@@ -152,6 +152,8 @@ public final class BoundaryOperatorsTest {
         dueMade(x, "one row of zeros", e -> e.distinct(3, 7), 2 + 1 + 1, 0, 0);
         Check.fill(x, 4, 0, 1, 1, 0, 0, 1, 1, 0);
         dueMade(x, "key and value are not mixed up", e -> e.distinct(4, 7), 2 + 1 + 1, 0, 1, 1, 0);
+        Check.fill(x, 5, 2, 5, 1, 5, 2, 5, 2, 6);
+        dueMade(x, "the same value in turn", e -> e.distinct(5, 7), 2 + 1 + 1, 1, 5, 2, 5, 2, 6);
     }
 
     private static void distinctCost() {
@@ -273,6 +275,7 @@ public final class BoundaryOperatorsTest {
         }
         Check.due("rows(7)", x.rows(7), total);
         dueTimesOfSixty(kind);
+        dueTimesOfOthers(kind);
     }
 
     /** 60 times the same row with itself, with a table without rows, and with one row of it. */
@@ -290,6 +293,28 @@ public final class BoundaryOperatorsTest {
         Check.due("none with 60, kind " + kind, x.combine(kind, 1, 0, 5), noneWith[kind]);
         Check.due("60 with 1, kind " + kind, x.combine(kind, 0, 2, 6), withOne[kind]);
         Check.due("1 with 60, kind " + kind, x.combine(kind, 2, 0, 7), oneWith[kind]);
+    }
+
+    /** 60 different rows with 60 others, which lie before, between and behind them. */
+    private static void dueTimesOfOthers(int kind) {
+        int[] due = {BlockExecutor.FULL, 0, 60, BlockExecutor.FULL};
+        int[] begins = {-1000, -1, 1, 1000};
+        for (int begin : begins) {
+            BlockExecutor x = new BlockExecutor(3);
+            for (int i = 0; i < 60; i++) {
+                Check.due("put", x.put(2 * i, i), true);
+            }
+            Check.due("store(0)", x.store(0), 60);
+            for (int i = 0; i < 60; i++) {
+                Check.due("put", x.put(begin + 2 * i, -1), true);
+            }
+            Check.due("store(1)", x.store(1), 60);
+            Check.due("60 with 60 others, kind " + kind, x.combine(kind, 0, 1, 7), due[kind]);
+            for (int place = 0; place < due[kind]; place++) {
+                Check.due("key at " + place, x.key(7, place), 2 * place);
+                Check.due("value at " + place, x.value(7, place), place);
+            }
+        }
     }
 
     private static void combineOtherKinds() {

@@ -334,6 +334,26 @@ public final class BoundaryRefusalsTest {
         unchanged("join(0, 1, 1)", BlockExecutor.TAKEN, e -> e.join(0, 1, 1));
         unchanged("join(0, 2, 7)", BlockExecutor.FULL, e -> e.join(0, 2, 7));
         unchanged("join(2, 2, 7)", BlockExecutor.FULL, e -> e.join(2, 2, 7));
+        slotIsFreeAfterFull();
+    }
+
+    /** Every call can make its table in a slot that another one was refused for as FULL. */
+    private static void slotIsFreeAfterFull() {
+        afterFull("store(7)", 2, e -> e.store(7));
+        afterFull("sort(0, 0, 7)", 3, e -> e.sort(0, 0, 7));
+        afterFull("select(0, 2, 2, 7)", 2, e -> e.select(0, 2, 2, 7));
+        afterFull("distinct(0, 7)", 2, e -> e.distinct(0, 7));
+        afterFull("group(0, 7)", 2, e -> e.group(0, 7));
+        afterFull("combine(3, 0, 1, 7)", 4, e -> e.combine(3, 0, 1, 7));
+        afterFull("join(0, 0, 7)", 4, e -> e.join(0, 0, 7));
+    }
+
+    private static void afterFull(String call, int rows, ToIntFunction<BlockExecutor> made) {
+        BlockExecutor x = standing();
+        Check.due("combine(3, 2, 2, 7)", x.combine(3, 2, 2, 7), BlockExecutor.FULL);
+        Check.due("join(2, 2, 7)", x.join(2, 2, 7), BlockExecutor.FULL);
+        Check.due(call + " after FULL", made.applyAsInt(x), rows);
+        Check.due("rows(7)", x.rows(7), rows);
     }
 
     private static void unchanged(String call, int due, ToIntFunction<BlockExecutor> made) {

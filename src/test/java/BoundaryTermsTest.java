@@ -46,6 +46,8 @@ public final class BoundaryTermsTest {
         int[] rows = {HIGH, LOW, LOW, HIGH, 0, 0, -1, LOW};
         BlockExecutor x = Check.fill(new BlockExecutor(3), 0, rows);
         Check.dueTable(x, 0, rows);
+        Check.fill(x, 7, -7, -8, LOW + 1, HIGH - 1, HIGH - 1, LOW + 1, 65536, -65536);
+        Check.dueTable(x, 7, -7, -8, LOW + 1, HIGH - 1, HIGH - 1, LOW + 1, 65536, -65536);
         Check.due("sort", x.sort(0, 0, 1), 4);
         Check.dueTable(x, 1, LOW, HIGH, -1, LOW, 0, 0, HIGH, LOW);
         Check.due("select", x.select(0, LOW, HIGH, 2), 4);
@@ -304,6 +306,9 @@ public final class BoundaryTermsTest {
     }
 
     private static void digitsOfSmallNumbers() {
+        for (int frames = 3; frames <= 6; frames++) {
+            dueLowestDigitFirst(frames);
+        }
         dueDigits(3, 0, 0, 0, 0);
         dueDigits(3, 1, 1, 0, 0);
         dueDigits(3, 2, 0, 1, 0);
@@ -321,6 +326,26 @@ public final class BoundaryTermsTest {
         dueDigits(6, 5, 0, 1, 0);
         dueDigits(6, 50, 0, 0, 2);
         dueDigits(6, 124, 4, 4, 4);
+    }
+
+    /**
+     * 1, F and F * F have one digit 1 each, and the numbers around them none. Digit 0 parts 1 from them,
+     * digit 1 then F, and digit 2 at last F * F: the later a number is parted, the sooner it is joined.
+     */
+    private static void dueLowestDigitFirst(int frames) {
+        int f = frames - 1;
+        BlockExecutor x = Check.fill(new BlockExecutor(frames), 0, 1, 1, 2, f, 3, f * f);
+        int[] ends = {1, f, f * f};
+        for (int number : ends) {
+            Check.due("put", x.put(number, number), true);
+        }
+        int others = 4 * (frames - 2);
+        for (int i = 0; i < others; i++) {
+            Check.due("put", x.put((2 + i) * f * f * f, 0), true);
+        }
+        Check.due("store(1)", x.store(1), others + 3);
+        Check.due("join", x.join(0, 1, 2), 3);
+        Check.dueTable(x, 2, 3, f * f, 2, f, 1, 1);
     }
 
     private static void digitsWrapAround() {
